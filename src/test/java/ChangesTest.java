@@ -20,6 +20,7 @@ public final class ChangesTest {
         writeAndRoom();
         send();
         sendSome();
+        allChanges();
         change();
         c.end();
     }
@@ -398,6 +399,21 @@ public final class ChangesTest {
         c.due("first", x.bytes(0, 1, 0, 0), 5);
         c.due("second", x.bytes(0, 1, 1, 0), 6);
         c.due("third", x.bytes(0, 1, 2, 0), 7);
+
+        x = new FolderRows();
+        x.make(0, 2, 0, 1);
+        x.make(0, 2, 1, 1);
+        x.make(0, 1, 2, 2);
+        x.send(0, 1);
+        x.gone(0, 2);
+        x.write(1, 3, 6, 1);
+        x.send(0, 1);
+        x.rules(1);
+        c.due("its folder is gone, though that one's is not: the root", x.thing(1, 3, 0, 1), 0);
+        c.due("folders do not come back", x.thing(1, 2, 0, 0), NONE);
+        x.gone(1, 3);
+        x.rules(0);
+        c.due("by rule 0 it is gone as ever", x.thing(1, 3, 0, 0), NONE);
     }
 
     private static void writeAndRoom() {
@@ -459,6 +475,10 @@ public final class ChangesTest {
         c.due("two more, one ahead of the other", x.sendSome(0, 2, 2), 2);
         c.due("all", x.differ(2, 0), 0);
         c.due("no more", x.sendSome(0, 2, 20), 0);
+        x.gone(2, 1);
+        x.gone(2, 2);
+        c.due("one alone", x.sendSome(2, 0, 1), 1);
+        c.due("one is left", x.differ(2, 0), 1);
 
         x = new FolderRows();
         x.make(0, 1, 0, 0);
@@ -467,6 +487,37 @@ public final class ChangesTest {
         }
         c.due("a chain comes as one", x.sendSome(0, 1, 19), 19);
         c.due("and its end", x.sendSome(0, 1, 20), 1);
+    }
+
+    private static void allChanges() {
+        c.promise(8, "as many changes as there can be");
+        FolderRows x = new FolderRows();
+        x.machines(4);
+        x.make(0, 1, 0, 0);
+        for (int m = 1; m < 4; m++) {
+            x.send(0, m);
+        }
+        for (int m = 0; m < 4; m++) {
+            for (int i = m == 0 ? 1 : 0; i < 20; i++) {
+                c.due("write " + i + " at " + m, x.write(m, 1, m, 1), i);
+            }
+        }
+        c.due("80 changes", x.count(1), 80);
+        c.due("some of the first", x.sendSome(1, 0, 20), 20);
+        c.due("the second's", x.send(2, 0), 20);
+        c.due("and the third's", x.send(3, 0), 20);
+        c.due("four ways", x.thing(0, 1, 0, 3), 4);
+        c.due("which end alike but for 0, a step ahead", x.bytes(0, 1, 0, 0), 0);
+        c.due("the last", x.bytes(0, 1, 3, 0), 3);
+        c.due("height of 0", x.change(0, 19, 2), 20);
+        c.due("height of 3", x.change(3, 19, 2), 21);
+        c.due("full", x.make(0, 1, 0, 0), FULL);
+        x.apart(0, 0);
+        c.due("all on the first", x.count(5), 80);
+        c.due("known at 1", x.taken(1), 21);
+        x.machines(4);
+        c.due("none any more", x.count(1), 0);
+        c.due("nor left out", x.count(5), 0);
     }
 
     private static void change() {

@@ -105,6 +105,10 @@ public final class DaysTest {
         c.due("not between", x.could(4, 0, 1, 3), 0);
         x.take(1);
         c.due("begun and taken on one day", x.could(4, 0, 1, 4), 0);
+        x.share(4, 0);
+        x.share(4, 0);
+        x.machines(2);
+        c.due("no share is left by machines", x.could(4, 0, 0, 0), 0);
     }
 
     private static void couldByTree() {

@@ -135,6 +135,19 @@ public final class PiecesTest {
         c.due("rows left out are not fetched", x.fetch(1, 1), 0);
         x.let(0);
         c.due("and then they are", x.fetch(1, 1), 1);
+
+        x = new FolderRows();
+        x.machines(4);
+        x.make(0, 1, 0, 0);
+        x.make(0, 1, 0, 1);
+        x.write(0, 1, 0x0103, 2);
+        x.write(0, 2, 0x0203, 2);
+        x.send(0, 3);
+        c.due("from the one that has it", x.fetch(3, 1), 2);
+        c.due("the first is nowhere else, the last is", x.write(0, 1, 0x02030103L, 4), 4);
+        x.gone(0, 2);
+        c.due("so neither goes", x.away(0, 1), STATE);
+        c.due("both are kept", x.pieces(0, 0, 0), 2);
     }
 
     private static void away() {

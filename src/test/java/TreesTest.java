@@ -75,6 +75,10 @@ public final class TreesTest {
         c.due("rule 2: the earliest has it", x.thing(0, 1, 0, 2), 3);
         c.due("rule 2: the next", x.thing(0, 2, 0, 2), 10);
         c.due("rule 2: the last", x.thing(0, 3, 0, 2), 11);
+        x.rules(1);
+        c.due("rule 1 has no say in it", x.thing(0, 3, 0, 2), 3);
+        x.rules(3);
+        c.due("rules 1 and 2: the earliest", x.thing(0, 1, 0, 2), 3);
         x.rules(0);
         x.move(0, 1, 0, 3);
         c.due("a move makes it latest", x.thing(0, 1, 0, 2), 3);
@@ -208,6 +212,11 @@ public final class TreesTest {
         c.due("link of a folder", x.bulk(3, 0, 2), 2);
         c.due("clash of a folder", x.bulk(5, 0, 1), 8);
         c.due("the root", x.bulk(0, 0, 0), 4);
+        c.due("the root as a folder", x.bulk(2, 0, 0), 7);
+        x.move(0, 3, 0, 9);
+        c.due("with one more", x.bulk(2, 0, 0), 10);
+        c.due("with one less", x.bulk(2, 0, 2), 5);
+        c.due("clash, one way", x.bulk(5, 1, 3), 20);
     }
 
     private static void things() {
@@ -364,6 +373,20 @@ public final class TreesTest {
         c.due("the other new of 1 tells now", x.thing(0, 1, 0, 0), 2);
         c.due("a later change on it", x.make(0, 1, 0, 1), 5);
         c.due("is left out", x.change(0, 1, 5), 1);
+
+        x = new FolderRows();
+        x.make(0, 1, 0, 0);
+        x.make(0, 1, 0, 1);
+        x.apart(0, 1);
+        x.sendSome(0, 1, 1);
+        c.due("on the first alone", x.make(1, 1, 0, 2), 2);
+        c.due("it stays", x.change(1, 0, 5), 0);
+        x.send(0, 1);
+        c.due("on both", x.make(1, 1, 0, 3), 3);
+        c.due("left out at once", x.change(1, 1, 5), 1);
+        c.due("so it is not there", x.thing(1, 3, 0, 0), NONE);
+        c.due("2 is of machine 1 now", x.thing(1, 2, 0, 2), 2);
+        c.due("left out in all", x.count(5), 2);
     }
 
     private static void let() {
