@@ -596,6 +596,20 @@ public final class LimitsTest {
 
     // ---- 10 change
 
+    static void promise10_whatItIsFrom0To3AndItsThing() {
+        FolderRows x = new FolderRows();
+        x.make(0, FOLDER, 0, 0);
+        x.make(0, FILE, 1, 0);
+        x.move(0, 2, 0, 0);
+        x.write(0, 2, 5, 0);
+        x.gone(0, 1);
+        int[][] due = {{0, 1}, {0, 2}, {1, 2}, {3, 2}, {2, 1}};
+        for (int i = 0; i < due.length; i++) {
+            c.due("what " + i + " is", x.change(0, i, 0), due[i][0]);
+            c.due("the thing of " + i, x.change(0, i, 1), due[i][1]);
+        }
+    }
+
     static void promise10_heightAndGroundFromNoneToTheMost() {
         FolderRows x = machines(4);
         x.make(0, FILE, 0, 0);
